@@ -287,8 +287,10 @@ public final class CutLengths {
         }
 
         int beginOfPart(int i, Strand strand) {
+            // A part has a step at least, so that so many parts always reach the end.
+            int partsAhead = Math.min(i, MOST_STEPS);
             int place = strand.torch;
-            for (int part = 0; part < i && place < strand.end; part++) {
+            for (int part = 0; part < partsAhead && place < strand.end; part++) {
                 place += steps[place];
             }
             return place;
