@@ -2,8 +2,29 @@ import java.util.function.LongSupplier;
 
 /** Counts and prints the calls whose answers are not the ones that are due. */
 final class Checks {
+    static final Class<IllegalStateException> TURN = IllegalStateException.class;
+    static final Class<IllegalArgumentException> RANGE = IllegalArgumentException.class;
+    static final Class<IndexOutOfBoundsException> INDEX = IndexOutOfBoundsException.class;
+    static final Class<UnsupportedOperationException> MEANING = UnsupportedOperationException.class;
+
     private int wrong = 0;
     private int made = 0;
+    private String test = "";
+
+    // A test that makes no check or ends before its last one must not pass.
+    void test(String name, Runnable body) {
+        test = name + ": ";
+        int madeBefore = made;
+        try {
+            body.run();
+        } catch (RuntimeException e) {
+            tell("a call that prepares", "throws." + e.getClass().getSimpleName(), "no exception");
+        }
+        if (made == madeBefore) {
+            tell("the test", "nothing", "a check");
+        }
+        test = "";
+    }
 
     void due(String call, long due, LongSupplier answer) {
         made++;
@@ -49,6 +70,25 @@ final class Checks {
         }
     }
 
+    /** The whole plan is due to be: wanted length, begin, steps of one part after the other. */
+    void parts(String name, CutLengths x, int... due) {
+        for (int i = 0; i < due.length; i++) {
+            int part = i / 3;
+            int what = i % 3;
+            due(name + ": part(" + part + ", " + what + ")", due[i], () -> x.part(part, what));
+        }
+        for (int what = 0; what < 3; what++) {
+            int asked = what;
+            due(name + ": no part more", -2, () -> x.part(due.length / 3, asked));
+        }
+    }
+
+    void slab(String name, CutLengths x, int slab, int wanted, int begin, int steps) {
+        due(name + ": wanted length", wanted, () -> x.slab(slab, 0));
+        due(name + ": begin", begin, () -> x.slab(slab, 1));
+        due(name + ": steps", steps, () -> x.slab(slab, 2));
+    }
+
     int wrongs() {
         return wrong;
     }
@@ -62,6 +102,6 @@ final class Checks {
 
     private void tell(String call, String got, String due) {
         wrong++;
-        System.out.println(call + " answered " + got + ", due is " + due);
+        System.out.println(test + call + " answered " + got + ", due is " + due);
     }
 }

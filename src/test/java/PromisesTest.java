@@ -1,9 +1,9 @@
 /** Each promise of the document: ordinary inputs, its edges and wrong inputs. */
 public final class PromisesTest {
-    private static final Class<IllegalStateException> TURN = IllegalStateException.class;
-    private static final Class<IllegalArgumentException> RANGE = IllegalArgumentException.class;
-    private static final Class<IndexOutOfBoundsException> INDEX = IndexOutOfBoundsException.class;
-    private static final Class<UnsupportedOperationException> MEANING = UnsupportedOperationException.class;
+    private static final Class<IllegalStateException> TURN = Checks.TURN;
+    private static final Class<IllegalArgumentException> RANGE = Checks.RANGE;
+    private static final Class<IndexOutOfBoundsException> INDEX = Checks.INDEX;
+    private static final Class<UnsupportedOperationException> MEANING = Checks.MEANING;
     private static final int[] FAR = {Integer.MIN_VALUE, Integer.MAX_VALUE};
 
     private static final Checks CHECKS = new Checks();
@@ -568,29 +568,15 @@ public final class PromisesTest {
         }
     }
 
-    /** So many steps cast, and wanted lengths: low, high, low, high, .. */
     private static CutLengths strand(int steps, int... spans) {
-        CutLengths x = new CutLengths();
-        x.cast(steps);
-        for (int i = 0; i + 1 < spans.length; i += 2) {
-            x.want(spans[i], spans[i + 1]);
-        }
-        return x;
+        return Strands.of(steps, spans);
     }
 
-    /** The whole plan is due to be: wanted length, begin, steps of one part after the other. */
     private static void parts(String name, CutLengths x, int... due) {
-        for (int i = 0; i < due.length; i++) {
-            int part = i / 3;
-            int what = i % 3;
-            CHECKS.due(name + ": part(" + part + ", " + what + ")", due[i], () -> x.part(part, what));
-        }
-        CHECKS.due(name + ": no part more", -2, () -> x.part(due.length / 3, 0));
+        CHECKS.parts(name, x, due);
     }
 
     private static void slab(String name, CutLengths x, int slab, int wanted, int begin, int steps) {
-        CHECKS.due(name + ": wanted length", wanted, () -> x.slab(slab, 0));
-        CHECKS.due(name + ": begin", begin, () -> x.slab(slab, 1));
-        CHECKS.due(name + ": steps", steps, () -> x.slab(slab, 2));
+        CHECKS.slab(name, x, slab, wanted, begin, steps);
     }
 }
