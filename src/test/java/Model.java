@@ -6,7 +6,7 @@ import java.util.List;
  * asked anew, every plan made anew.
  */
 final class Model {
-    private static final class Part {
+    static final class Part {
         final int wanted;
         final int begin;
         final int steps;
@@ -119,20 +119,34 @@ final class Model {
         return torch;
     }
 
-    /** The least scrap over all cuttings, tried one by one: for short strands alone. */
-    int leastOfAllCuttings(int place) {
-        if (place == n) {
-            return 0;
+    int wantedLengths() {
+        return spans.size();
+    }
+
+    /** The whole plan as one text. */
+    String planText() {
+        return text(plan());
+    }
+
+    static String text(List<Part> parts) {
+        StringBuilder text = new StringBuilder();
+        for (Part part : parts) {
+            text.append(part.wanted).append(" at ").append(part.begin).append(" of ").append(part.steps).append("; ");
         }
-        int least = 1 + leastOfAllCuttings(place + 1);
-        for (int wanted = 0; wanted < spans.size(); wanted++) {
-            for (int q = place + 1; q <= n; q++) {
-                if (isPiece(wanted, place, q)) {
-                    least = Math.min(least, leastOfAllCuttings(q));
-                }
+        return text.toString();
+    }
+
+    boolean isPiece(int wanted, int p, int q) {
+        int[] span = spans.get(wanted);
+        if (q - p < span[0] || q - p > span[1] || p != torch && isBarred(p) || q != n && isBarred(q)) {
+            return false;
+        }
+        for (int step = p; step < q; step++) {
+            if (step < front || step + 1 > n - back || isBad(step)) {
+                return false;
             }
         }
-        return least;
+        return true;
     }
 
     private List<Part> plan() {
@@ -185,19 +199,6 @@ final class Model {
             }
         }
         return null;
-    }
-
-    private boolean isPiece(int wanted, int p, int q) {
-        int[] span = spans.get(wanted);
-        if (q - p < span[0] || q - p > span[1] || p != torch && isBarred(p) || q != n && isBarred(q)) {
-            return false;
-        }
-        for (int step = p; step < q; step++) {
-            if (step < front || step + 1 > n - back || isBad(step)) {
-                return false;
-            }
-        }
-        return true;
     }
 
     private boolean isBarred(int place) {
